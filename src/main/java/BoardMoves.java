@@ -298,7 +298,7 @@ public final class BoardMoves {
         return changed;
     }
 
-    /** Moves neighbours ON until none overlap; false when the push is refused on the way. */
+    /** Moves neighbours ON until none overlap; false when the push is refused on the way, by its moves too. */
     private boolean clearTheWay(int pushed, boolean alongX, boolean upwards) {
         for (int moves = 0; moves < MOST_PUSHES; moves++) {
             int low = now.firstOverlapping();
@@ -316,7 +316,7 @@ public final class BoardMoves {
             long way = now.wayToBorder(going, staying, alongX, upwards);
             now.shiftGroup(going, alongX ? way : 0L, alongX ? 0L : way);
         }
-        return now.firstOverlapping() == NONE;
+        return false;
     }
 
     /** Whether of two that overlap the one with the lower number is the one that moves. */
