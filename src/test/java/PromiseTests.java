@@ -302,6 +302,15 @@ public final class PromiseTests {
         b.lock(2, false);
         due("all of one group", () -> b.push(1, 4, 5), 3);
         stands(b, 3, 12, 10, 0);
+        // The mate 0 of the pushed 2 lies on 1: it stays, though it begins farther on.
+        BoardMoves m = board(30, 30, 0, 2, 2, 3, 2, 2, 2);
+        m.put(0, 0, 0, 0);
+        m.put(1, 3, 0, 0);
+        m.put(2, 0, 9, 0);
+        m.group(0, 2);
+        due("a mate of the pushed one stays", () -> m.push(2, 4, 9), 2);
+        stands(m, 0, 4, 0, 0);
+        stands(m, 1, 6, 0, 0);
         BoardMoves c = board(30, 30, 0, 2, 2);
         c.part(2, 2, 1);
         c.put(0, 0, 0, 0);
@@ -416,20 +425,24 @@ public final class PromiseTests {
         stands(b, 1, 5, 2, 0);
         due("the wire then", b::wire, 7);
         due("the wire, anew", b::full, 7);
-        BoardMoves grouped = board(10, 12, s, 2, 2, 2, 2, 1, 1);
-        BoardMoves three = board(10, 12, seed(4, r -> r[0] % 3 == 1 && r[1] % 4 == 3 && r[2] % 10 == 5 && r[3] % 12 == 2), 2, 2, 2, 2, 1, 1);
-        three.put(0, 0, 0, 0);
-        three.put(1, 8, 9, 0);
-        three.put(2, 8, 8, 0);
-        three.group(1, 2);
-        three.net();
-        three.pin(0, 0, 0, 0);
-        three.pin(0, 1, 0, 0);
-        three.lock(2, true);
-        BoardMoves held = three;
-        due("a move that would take a locked one along", () -> held.run(1), 0);
-        stands(held, 1, 8, 9, 0);
-        due("not placed", () -> grouped.run(1), 0);
+        BoardMoves bare = board(10, 12, s, 2, 2, 2, 2);
+        bare.put(0, 0, 0, 0);
+        due("a move of one that is not placed", () -> bare.run(1), 0);
+        long middle = seed(4, r -> r[0] % 3 == 1 && r[1] % 4 == 3 && r[2] % 10 == 5 && r[3] % 12 == 2);
+        for (boolean held : new boolean[] {false, true}) {
+            BoardMoves three = board(10, 12, middle, 2, 2, 2, 2, 1, 1);
+            three.put(0, 0, 0, 0);
+            three.put(1, 8, 9, 0);
+            three.put(2, 8, 8, 0);
+            three.group(1, 2);
+            three.net();
+            three.pin(0, 0, 0, 0);
+            three.pin(0, 1, 0, 0);
+            three.lock(2, held);
+            due("a move of a group, one locked: " + held, () -> three.run(1), held ? 0 : 1);
+            stands(three, 1, held ? 8 : 5, held ? 9 : 2, 0);
+            stands(three, 2, held ? 8 : 5, held ? 8 : 1, 0);
+        }
     }
 
     private static void runTurn() {
@@ -484,6 +497,19 @@ public final class PromiseTests {
             stands(b, 3, kind == 1 ? 23 : 3, kind == 1 ? 23 : 3, 0);
             due("wire behind a swap", b::wire, want == 1 ? 8 : 48);
         }
+        BoardMoves g = board(30, 30, s, 2, 2, 2, 1, 1, 1, 1, 1);
+        g.put(0, 2, 0, 0);
+        g.put(1, 20, 20, 1);
+        g.put(2, 19, 26, 0);
+        g.group(1, 2);
+        g.net();
+        g.pin(0, 0, 0, 0);
+        g.pin(0, 2, 0, 0);
+        due("a swap with one of a group", () -> g.run(1), 1);
+        stands(g, 0, 20, 20, 0);
+        stands(g, 1, 2, 0, 1);
+        stands(g, 2, 1, 6, 0);
+        due("wire behind it", g::wire, 19 + 14);
         BoardMoves b = board(30, 30, s, 2, 2, 2, 1, 1, 1, 1, 1);
         b.put(0, 0, 0, 0);
         due("with one that is not placed", () -> b.run(1), 0);
@@ -546,25 +572,27 @@ public final class PromiseTests {
         }
         due("the later run", () -> first.run(40), second.run(40));
         for (int i = 0; i < 3; i++) stands(first, i, second.at(i, 0), second.at(i, 1), second.at(i, 2));
-        BoardMoves empty = new BoardMoves(64, 70, 999);
+        BoardMoves empty = new BoardMoves(70, 70, 999);
         empty.run(100);
-        empty.part(2, 2, 0);
-        empty.put(0, 0, 0, 0);
-        BoardMoves fresh = new BoardMoves(64, 70, 999);
-        fresh.part(2, 2, 0);
-        fresh.put(0, 0, 0, 0);
+        spread(empty, 3);
+        BoardMoves fresh = drawn(999, 3);
         due("without parts nothing is drawn", () -> empty.run(300), fresh.run(300));
+        for (int i = 0; i < 3; i++) stands(empty, i, fresh.at(i, 0), fresh.at(i, 1), fresh.at(i, 2));
     }
 
     private static BoardMoves drawn(long seed, int count) {
         BoardMoves b = new BoardMoves(70, 70, seed);
+        spread(b, count);
+        return b;
+    }
+
+    private static void spread(BoardMoves b, int count) {
         b.net();
         for (int i = 0; i < count; i++) {
             b.part(2, 2, 0);
             b.put(i, 20 * i, 10 * i, 0);
             b.pin(0, i, 1, 0);
         }
-        return b;
     }
 
     private static void wire(boolean anew) {
