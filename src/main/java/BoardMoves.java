@@ -110,11 +110,8 @@ public final class BoardMoves {
         boolean alongX = Math.abs(dx) >= Math.abs(dy);
         boolean upwards = alongX ? dx > 0L : dy > 0L;
         now.shiftGroup(part, dx, dy);
-        if (!clearTheWay(part, alongX, upwards)) {
-            now.copyFrom(before);
-            return NONE;
-        }
-        return keepChange(ANY_WIRE) ? countChanged(part) : NONE;
+        boolean kept = clearTheWay(part, alongX, upwards) ? keepChange(ANY_WIRE) : takeBack();
+        return kept ? countChanged(part) : NONE;
     }
 
     public long at(int part, int what) throws IndexOutOfBoundsException {
@@ -239,8 +236,10 @@ public final class BoardMoves {
     }
 
     private boolean fitsBoard(int part, long x, long y, int turn) {
-        return x >= 0L && x <= boardWide - parts.wide(part, turn)
-                && y >= 0L && y <= boardHigh - parts.high(part, turn);
+        boolean upright = turn % 2 == 0;
+        long wide = upright ? parts.w[part] : parts.h[part];
+        long high = upright ? parts.h[part] : parts.w[part];
+        return x >= 0L && x <= boardWide - wide && y >= 0L && y <= boardHigh - high;
     }
 
     private boolean standsWell(int part) {
@@ -248,7 +247,7 @@ public final class BoardMoves {
             return true;
         }
         return fitsBoard(part, now.x[part], now.y[part], now.turn[part])
-                && !now.overlapsAny(part)
+                && now.overlapped(part, 0) == NONE
                 && limits.isLowEnough(now, part)
                 && limits.isNearEnough(now, part);
     }
@@ -262,28 +261,28 @@ public final class BoardMoves {
         return true;
     }
 
-    /** All stood well before, so that only what was changed since can stand badly. */
-    private boolean isChangeAllowed() {
+    /**
+     * Keeps the change since 'before' when it is allowed and the wire grows by no more than moreWire.
+     * All stood well before, so that only what was changed since can stand badly.
+     */
+    private boolean keepChange(long moreWire) {
         for (int i = 0; i < parts.count; i++) {
             if (now.differs(before, i)) {
                 boolean held = parts.locked[i] && before.placed[i];
                 if (held || !standsWell(i)) {
-                    return false;
+                    return takeBack();
                 }
             }
         }
+        long newWire = wiring.measure(now);
+        if (newWire - keptWire > moreWire) {
+            return takeBack();
+        }
+        keptWire = newWire;
         return true;
     }
 
-    /** Keeps the change since 'before' when it is allowed and the wire grows by no more than moreWire. */
-    private boolean keepChange(long moreWire) {
-        if (isChangeAllowed()) {
-            long newWire = wiring.measure(now);
-            if (newWire - keptWire <= moreWire) {
-                keptWire = newWire;
-                return true;
-            }
-        }
+    private boolean takeBack() {
         now.copyFrom(before);
         return false;
     }
@@ -305,7 +304,7 @@ public final class BoardMoves {
             if (low == NONE) {
                 return true;
             }
-            int high = now.nextOverlapping(low);
+            int high = now.overlapped(low, low + 1);
             // Two of the pushed one's group are of the same group, too.
             if (high == NONE || parts.areMates(low, high)) {
                 return false;
@@ -400,14 +399,6 @@ public final class BoardMoves {
             return count - 1;
         }
 
-        long wide(int part, int turn) {
-            return turn % 2 == 0 ? w[part] : h[part];
-        }
-
-        long high(int part, int turn) {
-            return turn % 2 == 0 ? h[part] : w[part];
-        }
-
         boolean areMates(int a, int b) {
             return lowest[a] == lowest[b];
         }
@@ -479,45 +470,33 @@ public final class BoardMoves {
         }
 
         long endX(int part) {
-            return x[part] + parts.wide(part, turn[part]);
+            return x[part] + (turn[part] % 2 == 0 ? parts.w[part] : parts.h[part]);
         }
 
         long endY(int part) {
-            return y[part] + parts.high(part, turn[part]);
+            return y[part] + (turn[part] % 2 == 0 ? parts.h[part] : parts.w[part]);
         }
 
         boolean meetsArea(int part, long x0, long y0, long x1, long y1) {
             return placed[part] && x[part] < x1 && x0 < endX(part) && y[part] < y1 && y0 < endY(part);
         }
 
-        boolean overlap(int a, int b) {
-            return a != b && parts.side[a] == parts.side[b] && placed[a] && placed[b]
-                    && meetsArea(a, x[b], y[b], endX(b), endY(b));
-        }
-
-        boolean overlapsAny(int part) {
-            for (int i = 0; i < parts.count; i++) {
-                if (overlap(part, i)) {
-                    return true;
-                }
-            }
-            return false;
-        }
-
-        /** The first part that overlaps one with a higher number, or NONE. */
-        int firstOverlapping() {
-            for (int i = 0; i < parts.count; i++) {
-                if (nextOverlapping(i) != NONE) {
+        /** The first part, from a number on, that overlaps this placed one on its side, or NONE. */
+        int overlapped(int part, int from) {
+            long endX = endX(part);
+            long endY = endY(part);
+            for (int i = from; i < parts.count; i++) {
+                if (i != part && parts.side[i] == parts.side[part] && meetsArea(i, x[part], y[part], endX, endY)) {
                     return i;
                 }
             }
             return NONE;
         }
 
-        /** The first part with a higher number than this one that it overlaps, or NONE. */
-        int nextOverlapping(int part) {
-            for (int i = part + 1; i < parts.count; i++) {
-                if (overlap(part, i)) {
+        /** The first part that overlaps one with a higher number, or NONE. */
+        int firstOverlapping() {
+            for (int i = 0; i < parts.count; i++) {
+                if (placed[i] && overlapped(i, i + 1) != NONE) {
                     return i;
                 }
             }
