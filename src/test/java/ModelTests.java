@@ -5,7 +5,9 @@ import java.util.function.Supplier;
 
 /** Plays random calls on the class and on a slow, literal model of the document, and compares every answer. */
 public final class ModelTests {
+    private static final int MOST_CALLS = 512;
     private static int wrong = 0;
+    private static int asked = 0;
 
     /** A part of the model. */
     private static final class P {
@@ -348,6 +350,7 @@ public final class ModelTests {
     }
 
     private static void same(String call, Supplier<Object> real, Supplier<Object> model) {
+        asked++;
         String got = answer(real);
         String want = answer(model);
         if (!got.equals(want)) {
@@ -363,6 +366,14 @@ public final class ModelTests {
         return r.nextInt((int) length + 4) - 2;
     }
 
+    private static void look(String where, BoardMoves real, Model model, int part, int kind) {
+        if (kind == 0) same(where + "wire", real::wire, model::full);
+        else if (kind == 1) same(where + "full", real::full, model::full);
+        else if (kind == 2) same(where + "clear2", real::clear2, () -> true);
+        else if (kind == 3) same(where + "side", () -> real.side(part), () -> model.side(part));
+        else same(where + "at " + part + " " + (kind - 5), () -> real.at(part, kind - 5), () -> model.at(part, kind - 5));
+    }
+
     /** One board: which calls are likely differs from board to board. */
     private static int play(long seed) {
         Random r = new Random(seed);
@@ -375,7 +386,9 @@ public final class ModelTests {
         BoardMoves real = new BoardMoves(width, height, boardSeed);
         Model model = new Model(width, height, boardSeed);
         String where = "board " + seed + ": ";
-        for (int i = 0; i < 200; i++) {
+        asked = 0;
+        // Nothing is promised beyond 512 calls: a call and a look each time, and in the end a look at everything.
+        while (asked + 2 + 10 * (model.parts.size() + 1) + 3 <= MOST_CALLS) {
             int p = r.nextInt(model.parts.size() + 1) - (r.nextInt(30) == 0 ? 1 : 0);
             int q = r.nextInt(model.parts.size() + 1);
             long x = spot(r, width), y = spot(r, height), x1 = spot(r, width), y1 = spot(r, height);
@@ -413,18 +426,11 @@ public final class ModelTests {
                     if (on) same(where + "run", () -> real.run(steps), () -> model.run(steps));
                 }
             }
-            same(where + "wire", real::wire, model::full);
-            same(where + "full", real::full, model::full);
-            same(where + "clear2", real::clear2, () -> true);
-            for (int k = 0; k < model.parts.size(); k++) {
-                int part = k;
-                same(where + "side", () -> real.side(part), () -> model.side(part));
-                for (int what = -1; what <= 7; what++) {
-                    int item = what;
-                    same(where + "at " + part + " " + what, () -> real.at(part, item), () -> model.at(part, item));
-                }
-            }
+            look(where, real, model, r.nextInt(model.parts.size() + 1), r.nextInt(12));
         }
+        for (int part = 0; part < model.parts.size(); part++) for (int kind = 3; kind < 13; kind++) look(where, real, model, part, kind);
+        for (int kind = 0; kind < 3; kind++) look(where, real, model, 0, kind);
+        if (asked > MOST_CALLS) throw new UnsupportedOperationException("too many calls");
         return model.dearestPush;
     }
 
@@ -472,10 +478,10 @@ public final class ModelTests {
     }
 
     public static void main(String[] args) {
-        int boards = args.length > 0 ? Integer.parseInt(args[0]) : 300;
+        int boards = args.length > 0 ? Integer.parseInt(args[0]) : 1500;
         int dearest = 0;
         for (int i = 0; i < boards && wrong == 0; i++) dearest = Math.max(dearest, play(i));
-        for (int i = 0; i < 5 * boards && wrong == 0; i++) dearest = Math.max(dearest, playRow(i));
+        for (int i = 0; i < boards && wrong == 0; i++) dearest = Math.max(dearest, playRow(i));
         System.out.println(wrong == 0 ? "all answers are as the model's; dearest push " + dearest : wrong + " answers differ from the model's");
         if (wrong != 0) System.exit(1);
     }
