@@ -214,6 +214,7 @@ public final class BoundaryTests {
                 due("height", () -> b.height(part, 0), INDEX);
                 due("pin", () -> b.pin(part, part, 0, 0), INDEX);
             }
+            due("NONE", () -> NONE, -1);
             due("wire, full, clear2", () -> b.wire() + " " + b.full() + " " + b.clear2(), "0 0 true");
             due("run", () -> b.run(2000), 0);
             due("the first part", () -> b.part(1, 1, 0), 0);
@@ -570,16 +571,16 @@ public final class BoundaryTests {
             refused(b, "locked, not placed, its mate is", () -> b.push(1, 5, 5), STATE);
         });
         test("push: a part goes to x, y that are off the board, or wrap around: refused", () -> {
-            Board b = board(20, 20, 0, 4, 2);
+            Board b = board(20, 30, 0, 4, 2);
             b.put(0, 8, 8, 1);
             for (long far : FAR) {
                 refused(b, "x " + far, () -> b.push(0, far, 8), NONE);
                 refused(b, "y " + far, () -> b.push(0, 8, far), NONE);
                 refused(b, "both " + far, () -> b.push(0, far, far), NONE);
             }
-            due("the last corner", () -> b.push(0, 18, 16), 0);
-            refused(b, "x beyond", () -> b.push(0, 19, 16), NONE);
-            refused(b, "y beyond", () -> b.push(0, 18, 17), NONE);
+            due("the last corner", () -> b.push(0, 18, 26), 0);
+            refused(b, "x beyond", () -> b.push(0, 19, 26), NONE);
+            refused(b, "y beyond", () -> b.push(0, 18, 27), NONE);
             due("the first corner", () -> b.push(0, 0, 0), 0);
             stands(b, 0, 0, 0, 1);
         });
@@ -597,6 +598,16 @@ public final class BoundaryTests {
                         stands(b, 0, x, y, 0);
                     }
                 }
+            }
+        });
+        test("ON means this way: by 1 alone, all four ways", () -> {
+            for (int way = 0; way < 4; way++) {
+                long sx = way == 0 ? 1 : way == 1 ? -1 : 0, sy = way == 2 ? 1 : way == 3 ? -1 : 0;
+                Board b = board(30, 30, 0, 4, 4, 4, 4);
+                b.put(0, 12, 12, 0);
+                b.put(1, 12 + 4 * sx, 12 + 4 * sy, 0);
+                due("way " + way, () -> b.push(0, 12 + sx, 12 + sy), 1);
+                stands(b, 1, 12 + 5 * sx, 12 + 5 * sy, 0);
             }
         });
         test("while two parts of one side overlap: not with a border in common, nor another side", () -> {
@@ -673,6 +684,13 @@ public final class BoundaryTests {
                 stands(b, 2, 10, 16, 0);
             }
         });
+        test("otherwise that one whose rectangle begins farther ON, of the same the one with the higher number: all four ways", () -> {
+            for (int way = 0; way < 4; way++) {
+                for (int driven = 1; driven <= 2; driven++) {
+                    for (long to = 11; to <= 13; to++) drive(way, driven, to);
+                }
+            }
+        });
         test("its group goes along", () -> {
             Board b = board(30, 30, 0, 2, 2, 2, 2, 2, 2, 2, 2, 2, 2);
             b.put(0, 0, 0, 0);
@@ -686,6 +704,31 @@ public final class BoundaryTests {
             stands(b, 3, 9, 20, 0);
             due("one of it that is not placed stays so", () -> b.at(4, 0) + b.at(4, 3), 0);
         });
+    }
+
+    /** Part 0 drives one over another, both 4 long, so that it begins at 'to', where the other one begins at 12. */
+    private static void drive(int way, int driven, long to) {
+        int other = 3 - driven;
+        Board b = driven == 1 ? board(60, 60, 0, 6, 1, 4, 2, 4, 1) : board(60, 60, 0, 6, 1, 4, 1, 4, 2);
+        int turn = way < 2 ? 0 : 1;
+        b.put(0, spotX(way, 0, 6, 7), spotY(way, 0, 6, 7), turn);
+        b.put(driven, spotX(way, 8, 4, 7), spotY(way, 8, 4, 7), turn);
+        b.put(other, spotX(way, 12, 4, 8), spotY(way, 12, 4, 8), turn);
+        boolean otherGoes = to < 12 || to == 12 && other == 2;
+        due("way " + way + ", " + driven + " to " + to, () -> b.push(0, spotX(way, to - 6, 6, 7), spotY(way, to - 6, 6, 7)), otherGoes ? 2 : 1);
+        long drivenAt = otherGoes ? to : 16;
+        long otherAt = otherGoes ? to + 4 : 12;
+        stands(b, driven, spotX(way, drivenAt, 4, 7), spotY(way, drivenAt, 4, 7), turn);
+        stands(b, other, spotX(way, otherAt, 4, 8), spotY(way, otherAt, 4, 8), turn);
+    }
+
+    /** The corner of what begins at 'along' on one of four ways over a board of 60 by 60. */
+    private static long spotX(int way, long along, long length, long across) {
+        return way == 0 ? along : way == 1 ? 60 - along - length : across;
+    }
+
+    private static long spotY(int way, long along, long length, long across) {
+        return way == 2 ? along : way == 3 ? 60 - along - length : across;
     }
 
     private static void pushRefusals() {
@@ -1247,6 +1290,10 @@ public final class BoundaryTests {
             }
         });
         test("of each NEAR pair, both placed; a refused one is none", () -> {
+            Board away = board(40, 40, 0, 2, 2, 2, 2);
+            away.put(0, 30, 30, 0);
+            due("the other one is not placed", () -> away.near(0, 1, 3), true);
+            due("nor is the first one", () -> away.near(1, 0, 3), true);
             Board b = board(40, 40, 0, 2, 2, 2, 2);
             b.put(0, 0, 0, 0);
             due("one of them is not placed", () -> b.near(0, 1, 3), true);

@@ -341,23 +341,6 @@ public final class PromiseTests {
         stands(c, 1, 7, 0, 0);
         due("over the keep-out", () -> c.push(0, 8, 0), 1);
         stands(c, 1, 10, 0, 0);
-        row("199 moves", new long[] {5, 5, 5, 9, 8, 6, 8, 6, 8, 1, 2, 7, 1, 2, 8, 1, 8, 3, 5, 8, 6, 4, 8, 4},
-            new long[] {102, 123, 73, 51, 78, 60, 42, 36, 94, 50, 87, 66, 86, 16, 115, 93, 107, 29, 18, 0, 23, 32, 8, 89}, 19, 14, 23);
-        row("200 moves", new long[] {1, 4, 2, 2, 9, 9, 5, 8, 9, 1, 7, 3, 4, 1, 9, 9, 3, 2, 1, 8, 5, 6, 9, 4},
-            new long[] {62, 88, 111, 25, 14, 0, 9, 46, 79, 117, 72, 118, 113, 101, 102, 92, 59, 23, 54, 27, 41, 35, 63, 55}, 5, 21, -1);
-        row("201 moves", new long[] {3, 9, 1, 7, 7, 5, 3, 2, 3, 9, 9, 1, 1, 1, 8, 9, 2, 7, 7, 8, 8, 4, 5, 4},
-            new long[] {28, 72, 39, 90, 105, 40, 116, 64, 61, 45, 0, 81, 71, 31, 18, 9, 26, 54, 32, 82, 97, 112, 66, 119}, 10, 22, -1);
-    }
-
-    /** Parts in a row with room enough behind it: only the number of moves can refuse the push. */
-    private static void row(String what, long[] w, long[] x, int pushed, long to, int want) {
-        BoardMoves b = new BoardMoves(65536, 1, 0);
-        for (int i = 0; i < w.length; i++) {
-            b.part(w[i], 1, 0);
-            b.put(i, x[i], 0, 0);
-        }
-        due(what, () -> b.push(pushed, to, 0), want);
-        stands(b, pushed, want < 0 ? x[pushed] : to, 0, 0);
     }
 
     private static void at() {
