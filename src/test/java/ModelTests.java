@@ -477,11 +477,51 @@ public final class ModelTests {
         return model.dearestPush;
     }
 
+    /** A board with all the parts, nets and pins that there may be, and the longest runs. */
+    private static void playFull(long seed) {
+        Random r = new Random(seed);
+        long[] lengths = {40, 300, 65536, 70000, Long.MAX_VALUE};
+        long width = lengths[r.nextInt(5)], height = lengths[r.nextInt(5)];
+        BoardMoves real = new BoardMoves(width, height, seed * 0x9E3779B97F4A7C15L);
+        Model model = new Model(width, height, seed * 0x9E3779B97F4A7C15L);
+        String where = "full board " + seed + ": ";
+        asked = 0;
+        for (int i = 0; i < 40; i++) {
+            int part = i, side = r.nextInt(2), turn = r.nextInt(4);
+            long w = 1 + r.nextInt((int) model.width / 8), h = 1 + r.nextInt((int) model.height / 8);
+            long x = r.nextInt((int) model.width), y = r.nextInt((int) model.height);
+            same(where + "part", () -> real.part(w, h, side), () -> model.part(w, h, side));
+            same(where + "put", () -> real.put(part, x, y, turn), () -> model.put(part, x, y, turn));
+            same(where + "net", real::net, model::net);
+        }
+        for (int i = 0; i < 120; i++) {
+            int net = r.nextInt(40), part = r.nextInt(40);
+            long dx = r.nextInt((int) model.parts.get(part).w + 1), dy = r.nextInt((int) model.parts.get(part).h + 1);
+            same(where + "pin", () -> real.pin(net, part, dx, dy), () -> model.pin(net, part, dx, dy));
+        }
+        for (int i = r.nextInt(6); i > 0; i--) {
+            int a = r.nextInt(40), b = r.nextInt(40);
+            long most = r.nextInt((int) model.width);
+            same(where + "group", () -> real.group(a, b), () -> model.group(a, b));
+            same(where + "lock", () -> real.lock(b, true), () -> model.lock(b, true));
+            same(where + "near", () -> real.near(a, b, most), () -> model.near(a, b, most));
+            same(where + "height", () -> real.height(a, 9), () -> model.height(a, 9));
+            same(where + "keepOut", () -> real.keepOut(0, 0, most, most, 8), () -> model.keepOut(0, 0, most, most, 8));
+        }
+        for (long steps : new long[] {2000, 1, 0, 1999, 7}) {
+            same(where + "run", () -> real.run(steps), () -> model.run(steps));
+            same(where + "wire", real::wire, model::full);
+        }
+        for (int part = 0; part < 40; part++) for (int kind = 5; kind < 8; kind++) look(where, real, model, part, kind);
+        if (asked > MOST_CALLS) throw new UnsupportedOperationException("too many calls");
+    }
+
     public static void main(String[] args) {
         int boards = args.length > 0 ? Integer.parseInt(args[0]) : 1500;
         int dearest = 0;
         for (int i = 0; i < boards && wrong == 0; i++) dearest = Math.max(dearest, play(i));
         for (int i = 0; i < boards && wrong == 0; i++) dearest = Math.max(dearest, playRow(i));
+        for (int i = 0; i < boards / 75 && wrong == 0; i++) playFull(i);
         System.out.println(wrong == 0 ? "all answers are as the model's; dearest push " + dearest : wrong + " answers differ from the model's");
         if (wrong != 0) System.exit(1);
     }
